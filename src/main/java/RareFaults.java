@@ -579,10 +579,10 @@ public final class RareFaults {
             samples.clear();
         }
 
+        /** Sets a weight, and the tilted one, of a part that was just added. */
         void setBothWeights(int part, int load, int weight) {
             weights.set(part, load, weight);
             tilted.set(part, load, weight);
-            samples.clear();
         }
 
         void setWeight(int part, int load, int weight) {

@@ -83,6 +83,8 @@ public final class LooksTest {
         dueRow(even, 7, 0, 2, 5);
         dueRow(even, 15, 5, 5, 5);
         dueRow(even, 16, -1, -1, -1);
+        dueRow(even, 31, -1, -1, -1);
+        dueRow(even, 62, -1, -1, -1);
         dueRow(even, 99, -1, -1, -1);
         RareFaults ties = Checks.plantOf("24;42;11");
         dueRow(ties, 2, 1, 0, 1);
@@ -124,6 +126,10 @@ public final class LooksTest {
         RareFaults most = Checks.plantOf("900009;900009;900009;900009;900009;900009");
         most.limit(30);
         C.due("the most ways", 531441, most.count(7));
+        most.limit(31);
+        C.due("the ways of no fault from 31", 0, most.count(7));
+        most.limit(62);
+        C.due("the ways of no fault from 62", 0, most.count(7));
         RareFaults empty = new RareFaults();
         empty.limit(0);
         C.due("the ways of the row without loads", 1, empty.count(7));
@@ -161,6 +167,12 @@ public final class LooksTest {
             C.due("the latest correction", correction, x.measure(5));
             C.due("the estimate less the odds", faultSum / row - 6.0 / 25.0, x.measure(6));
         }
+        RareFaults small = Checks.plantOf("19");
+        small.tilt(0, 0, 99);
+        small.draw(1);
+        double low = 1.0 * 1 * 108 / 10 / 99;
+        C.due("a small correction", low, small.measure(5));
+        C.due("its effective number", low * low / (low * low), small.measure(4));
         C.dueThrow("measure(7)", x, NO_ARGUMENT, () -> x.measure(7));
         C.dueThrow("measure(-1)", x, NO_ARGUMENT, () -> x.measure(-1));
         RareFaults empty = new RareFaults();

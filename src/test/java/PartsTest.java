@@ -169,6 +169,10 @@ public final class PartsTest {
         C.dueThrow("tiltAll(-1)", x, NO_ARGUMENT, () -> x.tiltAll(-1));
         C.dueThrow("tiltAll(10)", x, NO_ARGUMENT, () -> x.tiltAll(10));
         C.dueThrow("tiltAll(max)", x, NO_ARGUMENT, () -> x.tiltAll(Integer.MAX_VALUE));
+        x.tilt(0, 0, 50);
+        x.tilt(1, 3, 50);
+        C.due("tiltAll(1) makes anew what was tilted", 1 + 4 + 9 + 16 + 54, x.tiltAll(1));
+        C.due("the load 0 is made anew, too", 1, x.weight(0, 0, true));
         RareFaults edge = Checks.plantOf("090009");
         C.due("tiltAll(2) at 99", 27 + 99, edge.tiltAll(2));
         RareFaults empty = new RareFaults();
@@ -193,7 +197,8 @@ public final class PartsTest {
 
     private static void changesForgetSamples() {
         RareFaults x = Checks.plantOf("111;111");
-        forgotten("limit", x, () -> x.limit(10));
+        x.limit(2);
+        forgotten("limit", x, () -> x.limit(2));
         forgotten("weigh", x, () -> x.weigh(0, 0, 1));
         forgotten("tilt", x, () -> x.tilt(0, 0, 1));
         forgotten("tiltAll", x, () -> x.tiltAll(0));

@@ -11,6 +11,7 @@ public final class SamplesTest {
         promise9DrawWithoutParts();
         promise9DrawWrong();
         promise10Forget();
+        promise10ForgottenSumsStartAnew();
         C.end();
     }
 
@@ -107,6 +108,41 @@ public final class SamplesTest {
         C.dueThrow("draw(0) at 9999", x, NO_ARGUMENT, () -> x.draw(0));
         C.due("forget", 9999, x.forget());
         C.due("draw(1) after forget", 0, x.draw(1));
+    }
+
+    private static void promise10ForgottenSumsStartAnew() {
+        RareFaults x = Checks.plantOf("00031;00002");
+        RareFaults y = Checks.plantOf("00031;00002");
+        x.limit(7);
+        y.limit(7);
+        x.tilt(0, 4, 9);
+        y.tilt(0, 4, 9);
+        x.draw(13);
+        C.due("loads of the latest row", true, x.part(0, 6) >= 3 && x.part(1, 6) == 4);
+        int load = x.part(0, 6);
+        double[] before = measures(x);
+        x.forget();
+        y.seed(x.count(2));
+        x.draw(10);
+        y.draw(10);
+        for (int what = 0; what <= 6; what++) {
+            C.due("after forget as anew, measure(" + what + ")", y.measure(what), x.measure(what));
+        }
+        x.undo();
+        x.undo();
+        for (int what = 0; what <= 6; what++) {
+            C.due("after undo as before, measure(" + what + ")", before[what], x.measure(what));
+        }
+        C.due("after undo as before, load of part 0", load, x.part(0, 6));
+        C.due("after undo as before, load of part 1", 4, x.part(1, 6));
+    }
+
+    private static double[] measures(RareFaults x) {
+        double[] measures = new double[7];
+        for (int what = 0; what <= 6; what++) {
+            measures[what] = x.measure(what);
+        }
+        return measures;
     }
 
     private static void promise10Forget() {

@@ -9,6 +9,7 @@ public final class WhatWouldBeTest {
         promise24Greatest();
         promise25Slightest();
         promise26Digest();
+        promise26DigestOfPowersOfTwo();
         promise26DigestTellsStatesApart();
         C.end();
     }
@@ -60,6 +61,11 @@ public final class WhatWouldBeTest {
         x.limit(5);
         C.due("greatest(true) of no fault", 0.0, x.greatest(true));
         C.due("greatest(false) of no fault", low * 4 * 24 / 5 / 4, x.greatest(false));
+        RareFaults top = Checks.plantOf("900001;000001;000001;000001;000001;000001");
+        top.limit(30);
+        C.due("greatest(true) from 30", 1.0 * 1 * 10 / 10 / 1, top.greatest(true));
+        top.tilt(0, 5, 20);
+        C.due("greatest(true) from 30, tilted", 1.0 * 1 * 29 / 10 / 20, top.greatest(true));
         RareFaults empty = new RareFaults();
         C.due("greatest(false) without parts", 1.0, empty.greatest(false));
         C.due("greatest(true) without parts", 0.0, empty.greatest(true));
@@ -98,6 +104,21 @@ public final class WhatWouldBeTest {
         same(x);
         x.undo();
         same(x);
+    }
+
+    /** Shares and effective numbers that are powers of 2, at the seam of two exponents. */
+    private static void promise26DigestOfPowersOfTwo() {
+        RareFaults x = new RareFaults();
+        for (int samples = 1; samples <= 64; samples++) {
+            x.draw(1);
+            same(x);
+        }
+        RareFaults y = Checks.plantOf("11;11");
+        y.limit(1);
+        for (int samples = 1; samples <= 64; samples++) {
+            y.draw(1);
+            same(y);
+        }
     }
 
     /** The digest by its definition, from the answers of the other calls. */
