@@ -217,7 +217,7 @@ public final class PartsTest {
     /** A change forgets all samples, but not the seed; undo brings them back. */
     private static void forgotten(String what, RareFaults x, Checks.Call change) {
         x.draw(5);
-        double[] before = measures(x);
+        double[] before = Makers.measures(x);
         int seed = x.count(2);
         change.answer();
         C.due(what + " forgets samples", 0, x.count(3));
@@ -231,17 +231,7 @@ public final class PartsTest {
         }
         x.undo();
         C.due("undo of " + what + " brings samples back", 5, x.count(3));
-        for (int kind = 0; kind <= 6; kind++) {
-            C.due("undo of " + what + ", measure(" + kind + ")", before[kind], x.measure(kind));
-        }
+        C.dueMeasures("undo of " + what, before, x);
         change.answer();
-    }
-
-    private static double[] measures(RareFaults x) {
-        double[] measures = new double[7];
-        for (int what = 0; what <= 6; what++) {
-            measures[what] = x.measure(what);
-        }
-        return measures;
     }
 }

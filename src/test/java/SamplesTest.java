@@ -67,9 +67,7 @@ public final class SamplesTest {
         C.due("draw(20)", faults, x.draw(20));
         C.due("faults so far", faults, x.count(4));
         C.due("draw(64)", y.draw(60) + y.draw(4), x.draw(64));
-        for (int what = 0; what <= 6; what++) {
-            C.due("as one by one, measure(" + what + ")", y.measure(what), x.measure(what));
-        }
+        C.dueMeasures("as one by one", Makers.measures(y), x);
         C.due("draw is undoable as one call", 5, x.count(8));
         x.undo();
         C.due("undo of draw, samples", 20, x.count(3));
@@ -120,29 +118,17 @@ public final class SamplesTest {
         x.draw(13);
         C.due("loads of the latest row", true, x.part(0, 6) >= 3 && x.part(1, 6) == 4);
         int load = x.part(0, 6);
-        double[] before = measures(x);
+        double[] before = Makers.measures(x);
         x.forget();
         y.seed(x.count(2));
         x.draw(10);
         y.draw(10);
-        for (int what = 0; what <= 6; what++) {
-            C.due("after forget as anew, measure(" + what + ")", y.measure(what), x.measure(what));
-        }
+        C.dueMeasures("after forget as anew", Makers.measures(y), x);
         x.undo();
         x.undo();
-        for (int what = 0; what <= 6; what++) {
-            C.due("after undo as before, measure(" + what + ")", before[what], x.measure(what));
-        }
+        C.dueMeasures("after undo as before", before, x);
         C.due("after undo as before, load of part 0", load, x.part(0, 6));
         C.due("after undo as before, load of part 1", 4, x.part(1, 6));
-    }
-
-    private static double[] measures(RareFaults x) {
-        double[] measures = new double[7];
-        for (int what = 0; what <= 6; what++) {
-            measures[what] = x.measure(what);
-        }
-        return measures;
     }
 
     private static void promise10Forget() {

@@ -91,19 +91,19 @@ public final class WhatWouldBeTest {
 
     private static void promise26Digest() {
         RareFaults x = Checks.plantOf("12;0345;6789;000001;9");
-        same(new RareFaults());
-        same(x);
+        same(new RareFaults(), "");
+        same(x, "");
         x.tiltAll(4);
         x.limit(5);
-        same(x);
+        same(x, "");
         for (int i = 0; i < 40; i++) {
             x.draw(3);
-            same(x);
+            same(x, "");
         }
         Checks.type(x, "12;~!");
-        same(x);
+        same(x, "12;~!");
         x.undo();
-        same(x);
+        same(x, "12;~!");
     }
 
     /** Shares and effective numbers that are powers of 2, at the seam of two exponents. */
@@ -111,49 +111,18 @@ public final class WhatWouldBeTest {
         RareFaults x = new RareFaults();
         for (int samples = 1; samples <= 64; samples++) {
             x.draw(1);
-            same(x);
+            same(x, "");
         }
         RareFaults y = Checks.plantOf("11;11");
         y.limit(1);
         for (int samples = 1; samples <= 64; samples++) {
             y.draw(1);
-            same(y);
+            same(y, "");
         }
     }
 
-    /** The digest by its definition, from the answers of the other calls. */
-    private static void same(RareFaults x) {
-        long hash = 2657;
-        for (int what = 0; what <= 8; what++) {
-            hash = 31 * hash + x.count(what);
-        }
-        for (int part = 0; part < x.count(0); part++) {
-            for (int what = 0; what <= 6; what++) {
-                hash = 31 * hash + x.part(part, what);
-            }
-            for (int load = 0; load < 12; load++) {
-                hash = 31 * hash + x.weight(part, load % 6, load >= 6);
-            }
-            hash = 31 * hash + x.likeliest(part);
-        }
-        for (int sum = 0; sum <= 10; sum += 5) {
-            hash = 31 * hash + x.ways(sum, false);
-            hash = 31 * hash + x.ways(sum, true);
-        }
-        for (int what = 0; what <= 6; what++) {
-            hash = 31 * hash + Double.doubleToLongBits(x.measure(what));
-        }
-        hash = 31 * hash + Double.doubleToLongBits(x.ifLimit(5));
-        hash = 31 * hash + Double.doubleToLongBits(x.greatest(true));
-        hash = 31 * hash + x.limitFor(100);
-        hash = 31 * hash + x.slightest();
-        // the buffer has no look of its own: it is known only where the test typed it
-        String typed = x.firstError() == 0 ? "" : "12;~!";
-        hash = 31 * hash + typed.length();
-        for (int i = 0; i < typed.length(); i++) {
-            hash = 31 * hash + typed.charAt(i);
-        }
-        C.due("digest", hash, x.digest());
+    private static void same(RareFaults x, String typed) {
+        C.due("digest", Digests.of(x, typed), x.digest());
     }
 
     private static void promise26DigestTellsStatesApart() {
